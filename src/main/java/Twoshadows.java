@@ -852,7 +852,7 @@ public final class Twoshadows {
 
         private int countFull(int row, int column) {
             int cell = row * sheet.columns + column;
-            return cell >= 0 && cell >= 0 && cell < fullCounts.length ? fullCounts[cell] : 0;
+            return cell >= 0 && cell < fullCounts.length ? fullCounts[cell] : 0;
         }
 
         /**
@@ -904,7 +904,7 @@ public final class Twoshadows {
             for (int column = 0; column < sheet.columns; column++) {
                 int sum = told.sumOf(false, column);
                 if (sum != NONE) {
-                    int full = sheet.fullIn(chosen, false, column);
+                    int full = Integer.bitCount(chosen & sheet.lineMask(false, column));
                     if (full > sum || full + row < sum) {
                         return false;
                     }

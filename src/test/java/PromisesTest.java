@@ -369,6 +369,9 @@ public final class PromisesTest {
         Twoshadows x = new Twoshadows();
         x.lay(4, 4);
         Check.same("19: all", x.many(), 65536);
+        x.tell(false, 0, 4);
+        Check.same("19: a full column", x.many(), 4096);
+        x.tell(false, 0, -1);
         told(x, true, 2, 2, 2, 2);
         Check.same("19: rows", x.many(), 1296);
         told(x, false, 2, 2, 2, 2);
