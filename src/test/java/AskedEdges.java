@@ -191,6 +191,12 @@ final class AskedEdges {
             x.fix(0, columns - 1, 1);
             Edge.same(size + " one", x.best(false), 1);
             Edge.same(size + " one, the direction", x.best(true), 0);
+            Edge.fixAll(x, 0);
+            x.tell(true, 0, 0);
+            Edge.same(size + " the empty one", x.best(false), 1);
+            Twoshadows full = Edge.full(rows, columns);
+            full.take();
+            Edge.same(size + " the full one", full.best(false), 1);
         });
         Edge.of("4. What is asked next", "at the worst so many FIGURES that FIT would have the same ones");
         Edge.same("nothing told, one cell", Edge.laid(1, 1).best(false), 1);

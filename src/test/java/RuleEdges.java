@@ -86,6 +86,9 @@ final class RuleEdges {
         Edge.same("the greatest ones last, just as much", told(rows(1, 1, 3, 3), 0, 2, 2, 4).rule(), true);
         Edge.same("two columns, too much", told(rows(2, 1, 0), 3, 0).rule(), false);
         Edge.same("two rows, too much", told(rows(4, 0), 2, 1, 1, 0).rule(), false);
+        Edge.same("two rows, too much for the last column", told(rows(4, 0), 0, 1, 1, 2).rule(), false);
+        Edge.same("three rows, too much for the last column", told(rows(2, 2, 0), 0, 1, 0, 3).rule(), false);
+        Edge.same("four rows, too much for the last column", told(rows(2, 2, 0, 0), 1, 3).rule(), false);
         Edge.same("two rows, just as much", told(rows(4, 0), 1, 1, 1, 1).rule(), true);
         Edge.same("one row", told(rows(2), 0, 1, 0, 1).rule(), true);
         Edge.same("one column", told(rows(1, 0, 1, 1), 3).rule(), true);
@@ -219,6 +222,15 @@ final class RuleEdges {
         Edge.same("though the rule holds", x.rule(), true);
         x.tell(true, 0, Edge.NONE);
         Edge.same("not all told", x.isSound(), true);
+        Edge.eachSheet((rows, columns) -> {
+            Twoshadows full = Edge.full(rows, columns);
+            full.take();
+            full.fix(rows - 1, columns - 1, 0);
+            Edge.same(Edge.size(rows, columns) + " one fixed", full.isSound(), true);
+            Edge.same(Edge.size(rows, columns) + " one fixed, none fits", full.many(), 0);
+            full.fix(rows - 1, columns - 1, 1);
+            Edge.same(Edge.size(rows, columns) + " one fixed, one fits", full.isSound(), true);
+        });
         Edge.of("Promise 27", "and then all that FIT are in the NET of the first one");
         Twoshadows most = told(rows(2, 2, 2, 2), 2, 2, 2, 2);
         Edge.same("ninety", most.isSound(), true);

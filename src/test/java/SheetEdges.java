@@ -130,6 +130,12 @@ final class SheetEdges {
         Edge.same("a snake by rows", Edge.drawn("####", "...#", "####", "#...").figure(4), 1);
         Edge.same("a snake by columns", Edge.drawn("##.#", ".#.#", ".#.#", ".###").figure(4), 1);
         Edge.same("a snake that turns in", Edge.drawn("####", "...#", "##.#", "####").figure(4), 1);
+        Edge.same("two arms that go down", Edge.drawn("####", "#..#").figure(4), 1);
+        Edge.same("two arms that go up", Edge.drawn("#..#", "####").figure(4), 1);
+        Edge.same("a long arm that goes up", Edge.drawn("#.", "#.", "##", ".#").figure(4), 1);
+        Edge.same("two long arms that go up", Edge.drawn("#.#", "#.#", "#.#", "###").figure(4), 1);
+        Edge.same("two wide arms that go up", Edge.drawn("#..#", "#..#", "####").figure(4), 1);
+        Edge.same("an arm that goes left", Edge.drawn("..#", "###").figure(4), 1);
         Edge.same("a ring that is open", Edge.drawn("####", "#..#", "#.##").figure(4), 1);
         Edge.same("a part and a cell in the last corner", Edge.drawn("###.", "###.", "##..", "...#").figure(4), 2);
     }
@@ -157,6 +163,8 @@ final class SheetEdges {
         Edge.same("only at the last column", Edge.drawn("###", "##.", "###").figure(5), 0);
         Edge.same("in two rows", Edge.drawn("#.##", "##.#").figure(5), 0);
         Edge.same("in one row", Edge.drawn("#.#").figure(5), 0);
+        Edge.same("in two columns", Edge.drawn("##", ".#", "#.", "##").figure(5), 0);
+        Edge.same("in one column", Edge.drawn("#", ".", "#").figure(5), 0);
         Edge.same("a hole and a part at the border", Edge.drawn("####", "#.##", "##..", "####").figure(5), 1);
     }
 
@@ -196,11 +204,15 @@ final class SheetEdges {
         same2("a gap behind two", Edge.drawn("##.#"), 0, 1);
         same2("no gap to the next row", Edge.drawn("..##", "##.."), 1, 1);
         same2("a row that is full", Edge.drawn("####", "#..."), 1, 1);
+        same2("a gap in the last of four short rows", Edge.drawn("...", "...", "...", "#.#"), 0, 1);
+        same2("a gap in the last of two long rows", Edge.drawn("....", ".#.#"), 0, 1);
         Edge.of("1. Sheets and figures", "by columns likewise");
         same2("a gap in the first column", Edge.drawn("#..", "...", "#.."), 1, 0);
         same2("a gap in the last column", Edge.drawn("..#", "...", "..#"), 1, 0);
         same2("a wide gap", Edge.drawn("#", ".", ".", "#"), 1, 0);
         same2("a gap behind two", Edge.drawn("#", "#", ".", "#"), 1, 0);
+        same2("a gap in the last of four short columns", Edge.drawn("...#", "....", "...#"), 1, 0);
+        same2("a gap in the last of two long columns", Edge.drawn("..", ".#", "..", ".#"), 1, 0);
         same2("gaps both ways", Edge.drawn("###", "#.#", "###"), 0, 0);
     }
 

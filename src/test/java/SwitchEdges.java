@@ -20,6 +20,7 @@ final class SwitchEdges {
         far();
         farOutside();
         joined();
+        askedAnew();
     }
 
     private static void luck() {
@@ -100,17 +101,28 @@ final class SwitchEdges {
         Edge.same("one column", Edge.drawn("#", ".", "#", ".").figure(9), 0);
         Edge.same("the most", Edge.drawn(MOST).figure(9), 16);
         Edge.of("3. Switches", "by it FULL ones become EMPTY, and EMPTY ones FULL");
-        for (int[] rows : new int[][] {{0, 1}, {0, 2}, {0, 3}, {1, 2}, {1, 3}, {2, 3}}) {
-            for (int[] columns : new int[][] {{0, 1}, {0, 2}, {0, 3}, {1, 2}, {1, 3}, {2, 3}}) {
-                int straight = 1 << (rows[0] * 4 + columns[0]) | 1 << (rows[1] * 4 + columns[1]);
-                int crossed = 1 << (rows[0] * 4 + columns[1]) | 1 << (rows[1] * 4 + columns[0]);
-                Twoshadows x = ofCode(straight, 4, 4);
-                Edge.same("one switch", x.figure(9), 1);
-                x.make(0);
-                Edge.same("there", x.figure(3), crossed);
-                x.make(0);
-                Edge.same("and back", x.figure(3), straight);
+        Edge.eachSheet((rows, columns) -> {
+            for (int first = 0; first < rows * columns; first++) {
+                for (int second = first + 1; second < rows * columns; second++) {
+                    thereAndBack(rows, columns, first, second);
+                }
             }
+        });
+    }
+
+    /** Two full cells alone have a switch just if neither their row nor their column is the same. */
+    private static void thereAndBack(int rows, int columns, int first, int second) {
+        String what = Edge.size(rows, columns) + " cells " + first + " and " + second;
+        boolean isSwitch = first / columns != second / columns && first % columns != second % columns;
+        int code = 1 << first | 1 << second;
+        Twoshadows x = ofCode(code, rows, columns);
+        Edge.same(what, x.figure(9), isSwitch ? 1 : 0);
+        if (isSwitch) {
+            int along = second % columns - first % columns;
+            x.make(0);
+            Edge.same(what + ", there", x.figure(3), 1 << (first + along) | 1 << (second - along));
+            x.make(0);
+            Edge.same(what + ", and back", x.figure(3), code);
         }
     }
 
@@ -304,5 +316,38 @@ final class SwitchEdges {
         Edge.same("two", x.joined(), 2);
         Edge.same("the figure stays", x.figure(3), Edge.drawn("##.", "#.#", ".#.").figure(3));
         Edge.same("none", new Twoshadows().joined(), -1);
+    }
+
+    /** The net is asked of one figure after another, a larger one before a smaller one, too. */
+    private static void askedAnew() {
+        Edge.of("3. Switches", "The NET of a FIGURE");
+        Twoshadows x = Edge.drawn(MOST);
+        Edge.same("the most", x.net(), 90);
+        x.make(0);
+        Edge.same("behind a switch", x.net(), 90);
+        int before = x.figure(3);
+        x.cell(0, 0, true);
+        x.cell(3, 3, true);
+        Edge.same("the net of before is left", x.far(before), -1);
+        x.lay(4, 4);
+        Edge.same("empty", x.net(), 1);
+        Edge.same("empty, far from before", x.far(before), -1);
+        Edge.same("empty, never joined", x.joined(), -1);
+        x.cell(0, 0, true);
+        x.cell(1, 1, true);
+        Edge.same("two cells", x.net(), 2);
+        Edge.same("two cells, never joined", x.joined(), -1);
+        Edge.same("two cells, far from before", x.far(before), -1);
+        x.cell(0, 1, true);
+        Edge.same("three cells", x.joined(), 0);
+        x.over(true);
+        Edge.same("turned over", x.net(), 1);
+        x.find(before);
+        Edge.same("found again", x.net(), 90);
+        Edge.same("found again, itself", x.far(before), 0);
+        Twoshadows y = Edge.drawn("##.", ".##", "#..");
+        Edge.same("joined by one", y.joined(), 1);
+        y.lay(3, 3);
+        Edge.same("never joined, behind one that was", y.joined(), -1);
     }
 }
