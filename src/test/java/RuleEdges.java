@@ -209,7 +209,7 @@ final class RuleEdges {
     }
 
     private static void sound() {
-        Edge.of("Promise 27", "if all SUMS are TOLD and nothing is FIXED, some FIGURE FITS just if the GREAT RULE holds");
+        Edge.of("Promise 27", "and nothing is FIXED, some FIGURE FITS just if the GREAT RULE holds");
         Twoshadows x = told(rows(2, 2, 2, 0), 4, 1, 1, 0);
         Edge.same("the rule does not hold", x.isSound(), true);
         Edge.same("and none fits", x.many(), 0);

@@ -176,11 +176,11 @@ final class SwitchEdges {
         Edge.refused("one, 1", () -> Edge.drawn("#.", ".#"), y -> y.make(1), Edge.INDEX);
         Edge.refused("one, -1", () -> Edge.drawn("#.", ".#"), y -> y.make(-1), Edge.INDEX);
         Edge.eachSheet((rows, columns) -> {
-            Edge.refused(Edge.size(rows, columns) + " empty", () -> Edge.laid(rows, columns), y -> y.make(0), Edge.INDEX);
-            Edge.refused(Edge.size(rows, columns) + " full", () -> Edge.full(rows, columns), y -> y.make(0), Edge.INDEX);
+            String size = Edge.size(rows, columns);
             int behind = Edge.busy(rows, columns).figure(9);
-            Edge.refused(Edge.size(rows, columns) + " busy", () -> Edge.busy(rows, columns), y -> y.make(behind),
-                Edge.INDEX);
+            Edge.refused(size + " empty", () -> Edge.laid(rows, columns), y -> y.make(0), Edge.INDEX);
+            Edge.refused(size + " full", () -> Edge.full(rows, columns), y -> y.make(0), Edge.INDEX);
+            Edge.refused(size + " busy", () -> Edge.busy(rows, columns), y -> y.make(behind), Edge.INDEX);
         });
     }
 
