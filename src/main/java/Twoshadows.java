@@ -437,15 +437,6 @@ public final class Twoshadows {
             layPlaces();
         }
 
-        private void layPlaces() {
-            places = 0;
-            for (int first = 0; first < rows; first++) {
-                for (int second = first + 1; second < rows; second++) {
-                    addPlaces(first, second);
-                }
-            }
-        }
-
         private int maskOf(boolean isRow, int number) {
             int mask = 0;
             if (number < lines(isRow)) {
@@ -454,6 +445,15 @@ public final class Twoshadows {
                 }
             }
             return mask;
+        }
+
+        private void layPlaces() {
+            places = 0;
+            for (int first = 0; first < rows; first++) {
+                for (int second = first + 1; second < rows; second++) {
+                    addPlaces(first, second);
+                }
+            }
         }
 
         private void addPlaces(int firstRow, int secondRow) {
